@@ -768,7 +768,9 @@ public final class FooledNeedle {
         int howMany = 0;
 
         Swing() {
-            Arrays.fill(errors, NONE);
+            for (int heading = 0; heading < HEADINGS; heading++) {
+                errors[heading] = NONE;
+            }
         }
 
         boolean has(int heading) {
@@ -1064,7 +1066,9 @@ public final class FooledNeedle {
         private final boolean[] noted = new boolean[COMPASSES * PLACES];
 
         Places() {
-            Arrays.fill(across, 100);
+            for (int place = 0; place < PLACES; place++) {
+                across[place] = 100;
+            }
         }
 
         void write(int compass, int place, Card card) {

@@ -23,7 +23,7 @@ public final class FaceTest {
     };
     private static final String[] RULED_OUT = {
         "throw", "throws", "try", "catch", "finally", "synchronized", "assert", "native", "volatile", "package",
-        "protected", "Exact", "System.out", "System.err", "System.nano", "System.current", "Random", "Thread",
+        "protected", "System.out", "System.err", "System.nano", "System.current", "Random", "Thread",
     };
 
     public static void main(String[] args) throws Exception {
@@ -105,6 +105,7 @@ public final class FaceTest {
         for (String word : RULED_OUT) {
             due.holds("no " + word, !Pattern.compile("\\b" + Pattern.quote(word) + "\\b").matcher(code).find());
         }
+        due.holds("none that ends in Exact", !Pattern.compile("Exact\\b").matcher(code).find());
         due.holds("no lambda", !code.contains("->"));
         due.holds("no method reference", !code.contains("::"));
         due.holds("one import", code.split("\\bimport\\b", -1).length == 2 && code.contains("import java.util.Arrays;"));

@@ -209,6 +209,22 @@ public final class MagnetsTest {
         z.part(0, 3, 1);
         // 20 by 11 to 20 is 1: 1 + 9 is the first.
         codes(z, "balls, the least code of many", 0, 0, 0, 10, 1);
+        // 20 * 4 by 2 is 40, at slot 2, no less than its size: 1.
+        FooledNeedle near = new FooledNeedle();
+        near.part(0, 3, 41);
+        near.ball(0, 2);
+        codes(near, "balls of code 1", 1, 0, 0, 1, 1);
+        near.ball(0, 3);
+        // 180 by 3 is 60, by 4 is 45, by 5 is 36; by 2 they would touch.
+        codes(near, "balls no nearer than their size", 4, 0, 0, 3, 1);
+        near.part(0, 3, 90);
+        codes(near, "balls just at their size", 30, 0, 0, 2, 1);
+        near.ball(0, 0);
+        near.ball(1, 1);
+        near.part(0, 3, 10);
+        codes(near, "balls 1 at slot 2", 0, 0, 0, 20, 1);
+        near.part(0, 3, 1);
+        codes(near, "balls 1 at slot 11", 0, 0, 0, 29, 1);
         FooledNeedle fewest = new FooledNeedle();
         fewest.part(0, 1, 1);
         fewest.bar(0, 16);

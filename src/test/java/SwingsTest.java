@@ -122,6 +122,10 @@ public final class SwingsTest {
             due.holds("part " + part + " comes back", Math.abs(x.told(2, part) - parts[part]) <= 1);
         }
         greatestIsOfWhatWasSeen();
+        greatestAtNorth();
+        for (int part = 1; part < 5; part++) {
+            squareWave(part);
+        }
         due.is("apart of 3", x.apart(3), Due.UNKNOWN);
         due.is("apart of -1", x.apart(-1), Due.UNKNOWN);
     }
@@ -153,6 +157,34 @@ public final class SwingsTest {
         for (int part = 0; part < 5; part++) {
             long by = part == 0 ? 32 : 16000;
             due.is("taken apart " + part, x.told(1, part), Math.floorDiv(2 * sums[part] + by, 2 * by));
+        }
+    }
+
+    private static void greatestAtNorth() {
+        FooledNeedle x = new FooledNeedle();
+        for (int heading = 0; heading < 32; heading++) {
+            x.see(0, heading, heading == 0 ? 320 : 0);
+        }
+        // A is 10, B and D are 0, C and E 20: 50 of 320 at north.
+        due.is("apart, greatest at north", x.apart(0), 270);
+        int[] parts = {10, 0, 20, 0, 20};
+        for (int part = 0; part < 5; part++) {
+            due.is("taken apart " + part, x.told(0, part), parts[part]);
+        }
+    }
+
+    /** Errors as great everywhere, with the sign of one wave: just above a half, so that it goes up. */
+    private static void squareWave(int part) {
+        FooledNeedle x = new FooledNeedle();
+        int great = part < 3 ? 585 : 574;
+        for (int heading = 0; heading < 32; heading++) {
+            int r = (part < 3 ? 100 : 200) * heading % 3200;
+            x.see(1, heading, great * Integer.signum(x.sine(r, part % 2 == 0)));
+        }
+        x.apart(1);
+        for (int other = 0; other < 5; other++) {
+            // 585 * 20308 by 16000 is 742.51; 574 * 20112 by 16000 is 721.52.
+            due.is("square wave " + part + ", part " + other, x.told(1, other), other != part ? 0 : part < 3 ? 743 : 722);
         }
     }
 

@@ -239,8 +239,16 @@ public final class VoyagesTest {
         due.is("bad", x.jump(3), Due.BAD);
         x.event(0, 30, 0, 90);
         due.is("told by an event, there is none left but small ones", x.jump(0) < 90 ? 1 : 0, 1);
-        suns(x, -600, 600);
         x.event(0, 0, 0, 0);
+        x.home();
+        x.leg(3, 0, 0, 0, NONE, 10);
+        x.leg(4, 0, 0, 0, NONE, NONE);
+        x.leg(5, 0, 0, 0, NONE, 50);
+        due.is("the first leg has the sun: k", x.split(), 1);
+        due.is("the first leg has the sun: from", x.jump(1), 3);
+        due.is("the first leg has the sun: to", x.jump(2), 5);
+        due.is("the first leg has the sun: jump", x.jump(0), 40);
+        suns(x, -600, 600);
         due.is("the greatest jump", x.jump(0), 1200);
     }
 
@@ -265,6 +273,10 @@ public final class VoyagesTest {
         due.is("by compass 1", x.firstApart(10), 1);
         x.event(0, 0, 0, 20);
         due.is("by compass 0 as of the day", x.firstApart(10), 3);
+        x.home();
+        due.is("legs of another voyage", x.firstApart(0), NONE);
+        x.leg(1, 100, 0, 0, 150, NONE);
+        due.is("the first leg", x.firstApart(0), 0);
     }
 
     private static void nearer() {
@@ -319,6 +331,16 @@ public final class VoyagesTest {
         due.is("the farthest", x.wreck(-9999, 9999, 2), farthest(x, -9999, 9999));
         x.part(0, 0, 1);
         due.is("cut towards 0", x.wreck(-9999, -9999, 2), farthest(x, -9999, -9999));
+        x.home();
+        x.part(0, 0, 0);
+        x.leg(3, 2400, 0, 100, NONE, NONE);
+        due.is("just west: s", x.wreck(0, -100, 1), 0);
+        due.is("just west: squares", x.wreck(0, -100, 2), 0);
+        x.part(0, 0, 100);
+        due.is("by the course", x.wreck(0, -100, 1), -100);
+        due.is("by the course, squares", x.wreck(0, -100, 2), 0);
+        x.event(0, 3, 0, 100);
+        due.is("by the course as of the day", x.wreck(0, -100, 1), -200);
     }
 
     private static int farthest(FooledNeedle x, int north, int east) {

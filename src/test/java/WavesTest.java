@@ -235,6 +235,10 @@ public final class WavesTest {
         due.is("worstAt of B and A", x.worstAt(0), 24);
         x.part(0, 5, 999);
         due.is("worst is upright", x.worst(0), 101);
+        x.part(2, 2, 100);
+        x.part(2, 5, 999);
+        due.is("worst is upright, north", x.worst(2), 100);
+        due.is("worstAt is upright, north", x.worstAt(2), 0);
         x.part(1, 3, -40);
         due.is("worst of D", x.worst(1), 40);
         due.is("worstAt of D", x.worstAt(1), 4);
@@ -247,7 +251,8 @@ public final class WavesTest {
     private static void twofold() {
         FooledNeedle x = new FooledNeedle();
         due.is("twofold of nothing", x.twofold(2), 0);
-        int[][] cards = {{0, 100, 0, 0, 0, 0}, {-5, 200, -150, 60, 7, 300}, {0, 999, 999, 999, 0, 0}, {3, 0, 0, 0, 700, 9}};
+        int[][] cards = {{0, 100, 0, 0, 0, 0}, {-5, 200, -150, 60, 7, 300}, {0, 999, 999, 999, 0, 0}, {3, 0, 0, 0, 700, 9},
+            {0, -258, 0, 0, 0, 0}};
         for (int[] card : cards) {
             for (int part = 0; part < 6; part++) {
                 x.part(2, part, card[part]);
@@ -263,6 +268,10 @@ public final class WavesTest {
             due.is("twofold", x.twofold(2), many);
             due.holds("twofold is met", many > 0);
         }
+        // The last card, B -258 alone: the readings of north are 0 and 3199.
+        due.is("trueOf(0)", x.trueOf(2, 0, 0), 0);
+        due.is("trueOf(3199)", x.trueOf(2, 3199, 0), 0);
+        due.is("twofold with north in it", x.twofold(2), 7);
         due.is("twofold of compass 3", x.twofold(3), Due.UNKNOWN);
         due.is("twofold of compass -1", x.twofold(-1), Due.UNKNOWN);
     }
