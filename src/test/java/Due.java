@@ -2,14 +2,20 @@
 final class Due {
     static final int UNKNOWN = -2001, BAD = -2002, STATE = -2003, FULL = -2004, NONE = -2009;
 
+    private String about = "";
     private int asked = 0;
     private int wrong = 0;
+
+    /** What the answers from here on are about: a promise or a part of the document. */
+    void about(String what) {
+        about = what + ": ";
+    }
 
     void is(String call, long got, long want) {
         asked++;
         if (got != want) {
             wrong++;
-            System.out.println(call + " answered " + got + ", due is " + want);
+            System.out.println(about + call + " answered " + got + ", due is " + want);
         }
     }
 
