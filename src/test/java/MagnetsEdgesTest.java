@@ -23,6 +23,7 @@ public final class MagnetsEdgesTest {
         bestFirstAndLastCodes();
         bestBallsNoNearerThanTheirSize();
         bestOfTheStore();
+        bestCodeAlone();
         layBest();
         due.end();
     }
@@ -444,6 +445,22 @@ public final class MagnetsEdgesTest {
         codes(x, "balls gone", 15, 0, 17, 0, 1);
         x.bar(1, 0);
         codes(x, "all gone", 35, 0, 0, 0, 0);
+    }
+
+    private static void bestCodeAlone() {
+        due.about("28, of THE BEST LAYING as it is now, whatever was asked ahead of it");
+        int[] dues = {1, 18, 3, 3};
+        for (int what = 0; what <= 3; what++) {
+            FooledNeedle x = ship(10, -20, 5);
+            x.bar(0, 80);
+            x.bar(1, 160);
+            x.ball(0, 1);
+            due.is("asked first, what " + what, x.bestCode(what), dues[what]);
+            x.part(0, 1, 0);
+            x.part(0, 2, 0);
+            x.part(0, 3, 0);
+            due.is("asked again, what " + what, x.bestCode(what), 0);
+        }
     }
 
     private static void layBest() {

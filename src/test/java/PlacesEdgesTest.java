@@ -106,11 +106,12 @@ public final class PlacesEdgesTest {
     }
 
     private static void allNotes() {
-        due.about("31, each COMPASS at each PLACE");
+        due.about("31, each COMPASS at each PLACE: 1");
         FooledNeedle x = new FooledNeedle();
         for (int compass = 0; compass < 3; compass++) {
             for (int place = 0; place < 8; place++) {
                 noted(x, compass, place, 100, place, 100 * compass + 7 * place);
+                due.is("again", x.note(compass, place), 1);
                 due.is("notes", x.count(4), 8 * compass + place + 1);
             }
         }

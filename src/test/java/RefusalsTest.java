@@ -1,4 +1,5 @@
 import java.util.ArrayList;
+import java.util.Arrays;
 import java.util.List;
 import java.util.function.Supplier;
 
@@ -88,7 +89,7 @@ public final class RefusalsTest {
     }
 
     private static String told(int[] a) {
-        return java.util.Arrays.toString(a);
+        return Arrays.toString(a);
     }
 
     private static boolean isRefusal(int answer) {
@@ -161,67 +162,8 @@ public final class RefusalsTest {
         }
     }
 
-    /** Something of all there is: compass 0 swung at five headings, 1 at three, 2 at none; four legs. */
-    private static FooledNeedle ship() {
-        FooledNeedle x = new FooledNeedle();
-        for (int compass = 0; compass < 3; compass++) {
-            for (int part = 0; part < 6; part++) {
-                x.part(compass, part, 70 * compass + 17 * part - 40);
-            }
-        }
-        for (int heading : new int[] {0, 5, 12, 20, 31}) {
-            x.see(0, heading, 10 * heading - 90);
-        }
-        for (int heading : new int[] {0, 10, 31}) {
-            x.see(1, heading, 3 * heading);
-        }
-        x.bar(0, 8000);
-        x.bar(1, 3000);
-        x.bar(2, 5000);
-        x.bar(5, 777);
-        x.layBar(0, 0, 3, false);
-        x.layBar(1, 1, 4, true);
-        x.ball(0, 6);
-        x.ball(1, 20);
-        x.ball(3, 2);
-        x.layBall(0, 7);
-        for (int place = 0; place < 8; place++) {
-            x.place(place, 100 + 30 * place, place == 3 ? 0 : 100 * place - 200);
-        }
-        for (int place : new int[] {0, 2, 3, 7}) {
-            x.note(0, place);
-        }
-        for (int place : new int[] {0, 5, 7}) {
-            x.note(1, place);
-        }
-        x.note(2, 0);
-        x.note(2, 7);
-        x.event(0, 10, 1, 30);
-        x.event(7, 500, 0, -45);
-        x.event(19, 999, 5, 300);
-        x.leg(10, 800, 5, 100, 820, 75);
-        x.leg(10, 3150, -30, 0, NONE, -600);
-        x.leg(500, 1600, 0, 17, 3199, NONE);
-        x.leg(998, 0, 30, 300, 0, 600);
-        return x;
-    }
-
-    private static FooledNeedle shipAtHome() {
-        FooledNeedle x = ship();
-        x.home();
-        return x;
-    }
-
-    private static FooledNeedle shipWithAllLegs() {
-        FooledNeedle x = shipAtHome();
-        for (int leg = 0; leg < 40; leg++) {
-            x.leg(500, 80 * leg, 0, leg, NONE, NONE);
-        }
-        return x;
-    }
-
     private static void waves() {
-        Supplier<FooledNeedle> ship = RefusalsTest::ship;
+        Supplier<FooledNeedle> ship = Ship::made;
         Arg compass = unknown(0, 2);
         Arg part = unknown(0, 5);
         Arg heading = unknown(0, 31);
@@ -242,7 +184,7 @@ public final class RefusalsTest {
     }
 
     private static void swings() {
-        Supplier<FooledNeedle> ship = RefusalsTest::ship;
+        Supplier<FooledNeedle> ship = Ship::made;
         Arg compass = unknown(0, 2);
         Arg heading = unknown(0, 31);
         Call see = (x, a) -> x.see(a[0], a[1], a[2]);
@@ -261,7 +203,7 @@ public final class RefusalsTest {
     }
 
     private static void magnets() {
-        Supplier<FooledNeedle> ship = RefusalsTest::ship;
+        Supplier<FooledNeedle> ship = Ship::made;
         Arg bar = unknown(0, 5);
         Arg ball = unknown(0, 3);
         Arg strength = bad(0, 30000);
@@ -287,7 +229,7 @@ public final class RefusalsTest {
     }
 
     private static void places() {
-        Supplier<FooledNeedle> ship = RefusalsTest::ship;
+        Supplier<FooledNeedle> ship = Ship::made;
         Arg compass = unknown(0, 2);
         Arg heading = unknown(0, 31);
         Arg place = unknown(0, 7);
@@ -312,7 +254,7 @@ public final class RefusalsTest {
     }
 
     private static void voyages() {
-        Supplier<FooledNeedle> ship = RefusalsTest::ship;
+        Supplier<FooledNeedle> ship = Ship::made;
         Arg part = unknown(0, 5);
         Arg day = bad(0, 999);
         Arg leg = unknown(0, 3);
@@ -350,7 +292,7 @@ public final class RefusalsTest {
     }
 
     private static void emptyVoyage() {
-        Supplier<FooledNeedle> home = RefusalsTest::shipAtHome;
+        Supplier<FooledNeedle> home = Ship::atHome;
         Arg mile = bad(-9999, 9999);
         row("36 leg, the first", home, RefusalsTest::legOf, TAKEN, with(0, 1, 2, 3, 4, 5), legArgs());
         row("37 about, no leg", home, (x, a) -> x.about(a[0], 0), UNKNOWN, with(0));
@@ -366,7 +308,7 @@ public final class RefusalsTest {
     }
 
     private static void fullVoyage() {
-        Supplier<FooledNeedle> full = RefusalsTest::shipWithAllLegs;
+        Supplier<FooledNeedle> full = Ship::withAllLegs;
         row("36 leg, full", full, RefusalsTest::legOf, FULL, with(500, 1, 2, 3, 4, 5), legArgs());
         row("36 leg, full, no other, no sun", full, RefusalsTest::legOf, FULL, with(999, 1, 2, 3, NONE, NONE), legArgs());
         row("36 leg, full and a day less", full, RefusalsTest::legOf, STATE, with(499, 1, 2, 3, 4, 5), legArgs());

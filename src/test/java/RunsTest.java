@@ -59,7 +59,7 @@ public final class RunsTest {
         if (dice.nextInt(oddOneIn) == 0) {
             return any(0, 999);
         }
-        day = x.count(0) == 0 ? dice.nextInt(50) : Math.min(999, x.about(x.count(0) - 1, 0) + dice.nextInt(4));
+        day = y.count(0) == 0 ? dice.nextInt(50) : Math.min(999, y.about(y.count(0) - 1, 0) + dice.nextInt(4));
         return day;
     }
 
@@ -128,6 +128,7 @@ public final class RunsTest {
             int part = 1 + dice.nextInt(3);
             int little = dice.nextInt(41) - 20;
             due.is(at + " part", x.part(0, part, little), y.part(0, part, little));
+            return;
         }
         switch (method) {
             case 18 -> due.is(at + " bar", x.bar(bar, strength), y.bar(bar, strength));
@@ -164,7 +165,7 @@ public final class RunsTest {
     }
 
     private void voyages(String at, int method) {
-        int leg = any(0, Math.max(0, x.count(0) - 1));
+        int leg = any(0, Math.max(0, y.count(0) - 1));
         int d = any(0, dice.nextBoolean() ? 60 : 999);
         int what = any(0, 2);
         int part = any(0, 5);
@@ -189,7 +190,7 @@ public final class RunsTest {
                 }
             }
             case 38 -> {
-                int n = any(0, x.count(0));
+                int n = any(0, y.count(0));
                 int s = any(-1600, 1599);
                 due.is(at + " worked", x.worked(n, d, s, b), y.worked(n, d, s, b));
             }

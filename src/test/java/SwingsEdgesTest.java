@@ -15,6 +15,7 @@ public final class SwingsEdgesTest {
         gap();
         apartWithThreeAndFour();
         apartRounded();
+        apartJustShortOfAHalf();
         apartAtMost();
         apartGreatestOfWhatWasSeen();
         apartLeavesJ();
@@ -239,6 +240,23 @@ public final class SwingsEdgesTest {
         FooledNeedle x = seenOnlyAt(31, 600);
         for (int part = 0; part < 5; part++) {
             due.is("600 at 31, part " + part, x.told(0, part), last[part]);
+        }
+    }
+
+    /** What is seen times its wave is 7999 in all, which by 16000 is just less than a half. */
+    private static void apartJustShortOfAHalf() {
+        due.about("18, ROUNDED by 16000, just short of a half");
+        int[][] rows = {
+            // -16 * 383 + 17 * 831; 21 * 831 - 17 * 556; 383 + 16 * 707 - 4 * 924, and the other way about
+            {1, 2, -16, 5, 17, 0, 0}, {2, 3, 21, 5, -17, 0, 0}, {3, 1, 1, 2, 16, 3, -4}, {4, 1, -4, 2, 16, 3, 1},
+        };
+        for (int[] row : rows) {
+            FooledNeedle x = allAround(0, 0);
+            for (int i = 1; i < 7; i += 2) {
+                x.see(0, row[i], row[i + 1]);
+            }
+            x.apart(0);
+            due.is("part " + row[0], x.told(0, row[0]), 0);
         }
     }
 

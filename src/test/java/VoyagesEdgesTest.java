@@ -25,6 +25,7 @@ public final class VoyagesEdgesTest {
         splitMiddle();
         splitOfAll();
         splitOfRestsThatLookLikeNone();
+        splitAsItIsNow();
         jump();
         jumpDays();
         firstApart();
@@ -257,7 +258,7 @@ public final class VoyagesEdgesTest {
         due.about("38, all LEGS are taken away: how many");
         FooledNeedle x = new FooledNeedle();
         due.is("none", x.home(), 0);
-        x.event(0, 0, 1, 5);
+        x.event(0, 5, 1, 5);
         x.leg(9, 0, 0, 100, 0, 5);
         due.is("one", x.home(), 1);
         due.is("none is left", x.home(), 0);
@@ -271,6 +272,7 @@ public final class VoyagesEdgesTest {
         due.is("wreck", x.wreck(0, 0, 2), NONE);
         due.is("miles", x.count(5), 0);
         due.is("events stay", x.count(3), 1);
+        due.is("from their days on", x.asOf(1, 5) - x.asOf(1, 4), 5);
         x.leg(8, 800, 0, 1, NONE, NONE);
         due.is("nothing of the old one", x.about(0, 4), NONE);
         due.is("nothing of its sun", x.split(), NONE);
@@ -436,6 +438,25 @@ public final class VoyagesEdgesTest {
         splits("both", x, 1, 0);
         due.is("the jump", x.jump(0), 9);
         due.is("from", x.jump(1), 1);
+    }
+
+    private static void splitAsItIsNow() {
+        due.about("40 to 42, as it is now, whatever was asked ahead of it");
+        due.is("the cost asked first", suns(0, 10, 20).splitCost(), 10);
+        due.is("the jump asked first", suns(0, 10, 20).jump(0), 10);
+        FooledNeedle x = suns(0, 0, 80);
+        splits("a jump", x, 2, 0);
+        x.event(0, 30, 0, 80);
+        splits("told by an event", x, 0, 0);
+        due.is("no jump any more", x.jump(0), NONE);
+        x.event(0, 20, 0, 80);
+        splits("told a leg too early", x, 0, 80);
+        x.home();
+        splits("no leg", x, NONE, NONE);
+        due.is("no leg, no jump", x.jump(1), NONE);
+        x.leg(5, 0, 0, 0, NONE, 3);
+        splits("one leg", x, 0, 0);
+        due.is("one leg, no jump", x.jump(2), NONE);
     }
 
     private static void jump() {

@@ -345,6 +345,10 @@ public final class WavesEdgesTest {
         FooledNeedle j = card(2, 0, 0, 0, 0, 0, 999);
         due.is("upright", j.worst(2), 0);
         due.is("upright, first", j.worstAt(2), 0);
+        // 9.81 at 7 is 10 too; heeled by 1 it would be 100 at north.
+        j.part(2, 1, 10);
+        due.is("B 10, upright", j.worst(2), 10);
+        due.is("B 10, upright, first", j.worstAt(2), 7);
     }
 
     private static void twofold() {
@@ -354,6 +358,13 @@ public final class WavesEdgesTest {
         // B -222: 3100 alone, by 3025 and 3026. B -600: north alone, by 13.
         due.is("two, at the last heading", card(0, 0, -222).twofold(0), 1);
         due.is("thirteen, at the first", card(0, 0, -600).twofold(0), 1);
+        // A 68, B -260, C -68: north by 0 and 3199, and 3100 by 2989 and 2990.
+        FooledNeedle north = card(0, 68, -260, -68);
+        due.is("TRUE of 0", north.trueOf(0, 0, 0), 0);
+        due.is("TRUE of 3199", north.trueOf(0, 3199, 0), 0);
+        due.is("the first and the last reading", north.twofold(0), 2);
+        due.is("asked again", north.twofold(0), 2);
+        due.is("another compass", north.twofold(1), 0);
         // B 225: 1700 alone, by two.
         due.is("two, at 17", card(2, 0, 225).twofold(2), 1);
         due.is("J does not matter, upright", card(0, 0, 0, 0, 0, 0, 999).twofold(0), 0);

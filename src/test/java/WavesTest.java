@@ -56,7 +56,8 @@ public final class WavesTest {
             due.is("sine of heading " + (32 - p), x.sine(100 * (32 - p) % 3200, false), -quarter[p]);
         }
         for (int r = 0; r < 3200; r++) {
-            due.is("cosine of " + r, x.sine(r, true), x.sine((r + 800) % 3200, false));
+            FooledNeedle y = new FooledNeedle();
+            due.is("cosine of " + r, y.sine(r, true), y.sine((r + 800) % 3200, false));
         }
         due.is("sine(150)", x.sine(150, false), 289);
         due.is("sine(50)", x.sine(50, false), 98);
@@ -193,12 +194,14 @@ public final class WavesTest {
         due.is("steer with A", x.steer(0, 0, 0), 3100);
         int[][] cards = {{-5, 200, -150, 60, 7, 300}, {0, 999, 999, 999, 0, 0}, {999, -999, 999, -999, 999, -999}};
         for (int[] card : cards) {
+            PlainNeedle y = new PlainNeedle();
             for (int part = 0; part < 6; part++) {
                 x.part(1, part, card[part]);
+                y.part(1, part, card[part]);
             }
             for (int t = 0; t < 3200; t += 317) {
                 for (int g = -30; g <= 30; g += 20) {
-                    due.is("steer " + t + " heeled " + g, x.steer(1, t, g), plainSteer(x, 1, t, g));
+                    due.is("steer " + t + " heeled " + g, x.steer(1, t, g), plainSteer(y, 1, t, g));
                 }
             }
         }
@@ -211,10 +214,10 @@ public final class WavesTest {
         due.is("steer by compass -1", x.steer(-1, 0, 0), Due.UNKNOWN);
     }
 
-    private static int plainSteer(FooledNeedle x, int compass, int t, int g) {
+    private static int plainSteer(PlainNeedle y, int compass, int t, int g) {
         for (int off = 0; off <= 1600; off++) {
             for (int r = 0; r < 3200; r++) {
-                int far = Math.abs(x.trueOf(compass, r, g) - t);
+                int far = Math.abs(y.trueOf(compass, r, g) - t);
                 if (Math.min(far, 3200 - far) == off) {
                     return r;
                 }
@@ -254,14 +257,16 @@ public final class WavesTest {
         int[][] cards = {{0, 100, 0, 0, 0, 0}, {-5, 200, -150, 60, 7, 300}, {0, 999, 999, 999, 0, 0}, {3, 0, 0, 0, 700, 9},
             {0, -258, 0, 0, 0, 0}};
         for (int[] card : cards) {
+            PlainNeedle y = new PlainNeedle();
             for (int part = 0; part < 6; part++) {
                 x.part(2, part, card[part]);
+                y.part(2, part, card[part]);
             }
             int many = 0;
             for (int t = 0; t < 3200; t += 100) {
                 int hits = 0;
                 for (int r = 0; r < 3200; r++) {
-                    hits += x.trueOf(2, r, 0) == t ? 1 : 0;
+                    hits += y.trueOf(2, r, 0) == t ? 1 : 0;
                 }
                 many += hits > 1 ? 1 : 0;
             }
