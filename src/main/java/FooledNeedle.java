@@ -17,6 +17,8 @@ public final class FooledNeedle {
     private static final int EVENTS = 20, DAY_MOST = 999, PUT_MOST = 300;
     private static final int LEGS = 40, MILES_MOST = 300, NORTH_MOST = 9999, MILE = 1000;
     private static final int WRECK_JUMP_MOST = 300, WRECK_JUMP_STEP = 20;
+    // Above any that can be: two squares of 9999 and 12000 miles together are less than half of it.
+    private static final int SQUARES_ABOVE_ALL = 2000000000;
 
     private final Card[] cards = new Card[COMPASSES];
     private final Swing[] swings = new Swing[COMPASSES];
@@ -1238,7 +1240,7 @@ public final class FooledNeedle {
         int squares = 0;
 
         void find(Legs legs, int placeNorth, int placeEast) {
-            squares = Integer.MAX_VALUE;
+            squares = SQUARES_ABOVE_ALL;
             for (int s = -WRECK_JUMP_MOST; s <= WRECK_JUMP_MOST; s += WRECK_JUMP_STEP) {
                 findDay(legs, s, placeNorth, placeEast);
             }

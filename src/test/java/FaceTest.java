@@ -6,6 +6,7 @@ import java.nio.file.Files;
 import java.nio.file.Path;
 import java.util.Set;
 import java.util.TreeSet;
+import java.util.regex.Matcher;
 import java.util.regex.Pattern;
 
 /** The public face, and those rules of LANGUAGE.md that can be told from outside. Runs in the project's root. */
@@ -25,6 +26,9 @@ public final class FaceTest {
         "throw", "throws", "try", "catch", "finally", "synchronized", "assert", "native", "volatile", "package",
         "protected", "System.out", "System.err", "System.nano", "System.current", "Random", "Thread",
     };
+    /** What the class takes of the library that LANGUAGE.md lists in its rule 4. */
+    private static final Set<String> LIBRARY = Set.of(
+        "Arrays.fill", "System.arraycopy", "Math.abs", "Math.max", "Math.min", "Math.floorDiv", "Math.floorMod");
 
     public static void main(String[] args) throws Exception {
         constants();
@@ -47,12 +51,17 @@ public final class FaceTest {
         return text.substring(text.lastIndexOf('.', text.indexOf('(')) + 1);
     }
 
-    private static void members() {
-        Set<String> face = new TreeSet<>(Set.of(FACE));
+    private static Set<String> namesOfFace() {
         Set<String> names = new TreeSet<>();
         for (String signature : FACE) {
             names.add(signature.substring(0, signature.indexOf('(')));
         }
+        return names;
+    }
+
+    private static void members() {
+        Set<String> face = new TreeSet<>(Set.of(FACE));
+        Set<String> names = namesOfFace();
         Set<String> found = new TreeSet<>();
         for (Method method : FooledNeedle.class.getDeclaredMethods()) {
             if (Modifier.isPrivate(method.getModifiers())) {
@@ -89,6 +98,7 @@ public final class FaceTest {
     private static void insideClasses() {
         Class<?>[] inside = FooledNeedle.class.getDeclaredClasses();
         due.holds("some twelve classes", inside.length <= 11);
+        Set<String> names = namesOfFace();
         for (Class<?> one : inside) {
             due.holds(one + " is static", Modifier.isStatic(one.getModifiers()));
             due.holds(one + " is not public", !Modifier.isPublic(one.getModifiers()));
@@ -96,7 +106,20 @@ public final class FaceTest {
             due.holds(one + " has some twenty fields", one.getDeclaredFields().length <= 20);
             for (Method method : one.getDeclaredMethods()) {
                 due.holds(method + " takes seven at most", method.getParameterCount() <= 7);
+                due.holds(method + " bears no name of the face", !names.contains(method.getName()));
             }
+        }
+    }
+
+    /** Rule 4: a name behind a class's name is one of the class's own, or one that the rule lists. */
+    private static void library(String code) {
+        Set<String> own = new TreeSet<>();
+        for (Class<?> one : FooledNeedle.class.getDeclaredClasses()) {
+            own.add(one.getSimpleName());
+        }
+        Matcher used = Pattern.compile("\\b([A-Z]\\w*)\\.(\\w+)").matcher(code.replaceAll("(?m)^import .*$", ""));
+        while (used.find()) {
+            due.holds("rule 4 lists " + used.group(), own.contains(used.group(1)) || LIBRARY.contains(used.group()));
         }
     }
 
@@ -105,6 +128,7 @@ public final class FaceTest {
         for (String word : RULED_OUT) {
             due.holds("no " + word, !Pattern.compile("\\b" + Pattern.quote(word) + "\\b").matcher(code).find());
         }
+        library(code);
         due.holds("none that ends in Exact", !Pattern.compile("Exact\\b").matcher(code).find());
         due.holds("no lambda", !code.contains("->"));
         due.holds("no method reference", !code.contains("::"));
